@@ -149,6 +149,14 @@ public final class PromiseTest {
         Due.is("7 none", x.stones(0, 0), 0);
         Due.is("7 98", x.stones(2, 98), 10);
         Due.is("7 99", x.stones(0, 99), 3);
+        MasonMarks all = Due.laid(times(16, "g1,99;") + "c0,0,0;c1,0,0;t0,15,3;t0,98,4;t0,99,5;t1,0,6;");
+        Due.is("7 the last sign", all.stones(0, 15), 3);
+        Due.is("7 98", all.stones(0, 98), 4);
+        Due.is("7 99", all.stones(0, 99), 5);
+        Due.is("7 the next course", all.stones(1, 0), 6);
+        Due.is("7 the next course", all.stones(1, 99), 0);
+        Due.is("7 BAD: no 17th sign", all.stones(0, 16), BAD);
+        Due.is("7 BAD: no 18th sign", all.stones(0, 17), BAD);
         Due.is("7 BAD", x.stones(3, 0), BAD);
         Due.is("7 BAD", x.stones(-1, 0), BAD);
         Due.is("7 BAD", x.stones(0, 2), BAD);
@@ -399,6 +407,16 @@ public final class PromiseTest {
         Due.is("22 NONE", x.named(0), NONE);
         Due.is("22 the name", x.named(1), 1);
         Due.is("22 shows nowhere", x.named(2), NONE);
+        Due.is("21 asked first", Due.laid(ROLLS).odds(0, 0, 1), 2);
+        Due.is("22 asked first", Due.laid(ROLLS).named(1), 1);
+        MasonMarks y = Due.laid(ROLLS + "t0,99,1;c1,0,0;t1,99,1;");
+        Due.is("22 ahead of a stone that is read", y.named(-1), 1);
+        Due.is("9 read", y.read(1, 2), 0);
+        // Sign 2 shows in week 0 now: of names 0 and 1 only 0 is left for it, and 2 for sign 0.
+        Due.is("22 behind it", y.named(-1), 3);
+        Due.is("22 behind it", y.named(0), 2);
+        Due.is("9 read", y.read(0, 2), 0);
+        Due.is("21 behind it", y.odds(2, 0, 0), 1);
     }
 
     private static void oddsAre(MasonMarks x, int m, int k, int above, int below) {
