@@ -335,6 +335,8 @@ public final class PromiseTest {
         Due.is("16 now 4", Due.laid(worst).best(-2), 4);
         // Part 1 showing sign 0 makes it 6 (all parts have it), sign 1 leaves 4; part 2 showing sign 1 leaves 4.
         Due.is("16 at worst", Due.laid(worst + "t1,99,1;t2,99,1;").next(), 2);
+        // 0 1 2 and 0 2 1 now; if part 2 showed sign 0, which is in 0, only 0 2 1.
+        Due.is("16 2 and 1", Due.laid(one + "b1,0;b2,0;t0,99,1;t2,99,1;").next(), 2);
         MasonMarks x = Due.laid(worst + "t1,99,1;t2,99,1;");
         x.next();
         Due.is("16 nothing changed", x.best(-2), 4);
