@@ -364,6 +364,26 @@ public final class PartEdgesTest {
         Due.is("25 nothing of the wall changes", x.count(6), 1);
     }
 
+    private static void foundIs(String why, int[] by, int gaps, int orders, int found) {
+        MasonMarks x = new MasonMarks();
+        for (int o = 0; o < 6; o++) {
+            Due.is("25 GAPS: " + why, x.found(by[0], 3, o, by[1], by[2], 0), gaps);
+            Due.is("25 ORDERS: " + why, x.found(by[0], 3, o, by[1], by[2], 1), orders);
+            Due.is("25 found: " + why, x.found(by[0], 3, o, by[1], by[2], 2), found);
+        }
+    }
+
+    /** Each two of three places share a SIGN, so one SIGN must leave off: by strokes, and by how many men came. */
+    private static void foundByStrokes() {
+        foundIs("2 strokes at 0 and 2, 4 at 0 and 1, 3 at 1 and 2", new int[] {4205, 3, 80}, 2, 2, 1);
+        foundIs("4 strokes at 1 and 2, 2 at 0 and 1, 3 at 0 and 2", new int[] {9697, 3, 80}, 2, 2, 0);
+        foundIs("5 strokes at 0 and 1, 1 at 1 and 2, 3 at 0 and 2", new int[] {465, 3, 70}, 1, 2, 0);
+        foundIs("the first two of these men", new int[] {465, 2, 70}, 0, 2, 1);
+        foundIs("the first of these men", new int[] {465, 1, 70}, 0, 4, 1);
+        foundIs("man 0 at 2", new int[] {3, 1, 100}, 0, 6, 1);
+        foundIs("man 0 at 2, man 1 at 0 and 1", new int[] {3, 2, 100}, 0, 4, 1);
+    }
+
     public static void main(String[] args) {
         twoParts();
         alikeEdges();
@@ -379,6 +399,7 @@ public final class PartEdgesTest {
         nextEdges();
         foundNumbers();
         foundByHand();
+        foundByStrokes();
         Due.end();
     }
 }
