@@ -873,6 +873,8 @@ public final class MasonMarks {
         final int[] fewest = new int[SETS];
         final int[] rows = new int[SETS];
         final int[] reached = new int[SETS];
+        // Of a set: all signs that are in one of its parts (of the empty one none).
+        final int[] signsOfSet = new int[SETS];
         final int[] row = new int[MOST_PARTS];
         int rowLength;
         int parts;
@@ -898,9 +900,18 @@ public final class MasonMarks {
         }
 
         void weigh() {
+            gatherSigns();
             for (int ahead = parts; ahead >= 0; ahead--) {
                 if ((ahead & ~parts) == 0) {
                     weighSet(ahead);
+                }
+            }
+        }
+
+        private void gatherSigns() {
+            for (int p = 0; p < MOST_PARTS; p++) {
+                for (int set = 0; set < 1 << p; set++) {
+                    signsOfSet[set | 1 << p] = signsOfSet[set] | signsOf[p];
                 }
             }
         }
@@ -935,17 +946,7 @@ public final class MasonMarks {
         /** Strokes of the signs that lie on both sides of a part and not in it. */
         private int gapsAdded(int ahead, int p) {
             int behind = parts & ~ahead & ~(1 << p);
-            return strokesOf(signsOfSet(ahead) & signsOfSet(behind) & ~signsOf[p]);
-        }
-
-        private int signsOfSet(int set) {
-            int bits = 0;
-            for (int p = 0; p < MOST_PARTS; p++) {
-                if ((set >> p & 1) == 1) {
-                    bits |= signsOf[p];
-                }
-            }
-            return bits;
+            return strokesOf(signsOfSet[ahead] & signsOfSet[behind] & ~signsOf[p]);
         }
 
         int strokesOf(int bits) {
