@@ -6,6 +6,7 @@ public final class MasonMarks {
 
     private static final int LONGEST_TEXT = 500;
     private static final int MOST_FIGURES = 3;
+    private static final int MOST_NUMBERS = 3;
     private static final int MOST_SIGNS = 16;
     private static final int MOST_COURSES = 16;
     private static final int MOST_PARTS = 6;
@@ -486,7 +487,7 @@ public final class MasonMarks {
     /** THE TEXT, and how its items are told to a wall. */
     private static final class Scroll {
         final byte[] bytes = new byte[LONGEST_TEXT];
-        final int[] numbers = new int[MOST_FIGURES];
+        final int[] numbers = new int[MOST_NUMBERS];
         int length;
 
         void append(int n, long v) {
@@ -514,7 +515,7 @@ public final class MasonMarks {
         private int split(int start) {
             int wanted = numbersOf(byteAt(start));
             int place = start + 1;
-            for (int i = 0; i < wanted; i++) {
+            for (int i = 0; i < wanted && i < MOST_NUMBERS; i++) {
                 int figures = figuresAt(place);
                 if (figures < 1) {
                     return NONE;
